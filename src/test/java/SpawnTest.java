@@ -1,0 +1,65 @@
+/** Promise 2. */
+public final class SpawnTest {
+    private static final Checks CHECKS = new Checks("SpawnTest");
+
+    public static void main(String[] args) {
+        leastFirst();
+        fullChangesNothing();
+        aDeadOneIsStillThere();
+        beginsAnew();
+        CHECKS.end();
+    }
+
+    private static void leastFirst() {
+        SheetKernel x = new SheetKernel();
+        for (int p = 0; p < 4; p++) {
+            CHECKS.due("spawn", p, x.spawn());
+            CHECKS.process(x, p, 1, 0, -2, 0, 0, 0, 0);
+            CHECKS.registers(x, p, 0, 0, 0, 0);
+            for (int k = 0; k < 8; k++) {
+                CHECKS.page(x, p, k, 0, -2, -2, 0, 0, 0);
+            }
+            CHECKS.due("count(1)", p + 1, x.count(1));
+        }
+        CHECKS.due("count(4)", 0, x.count(4));
+        x.kill(2);
+        x.kill(1);
+        CHECKS.due("spawn", 1, x.spawn());
+        CHECKS.due("spawn", 2, x.spawn());
+    }
+
+    private static void fullChangesNothing() {
+        SheetKernel x = Words.ran(1, Words.set(2, 9), Words.jump(1));
+        for (int p = 1; p < 4; p++) {
+            x.spawn();
+        }
+        CHECKS.due("spawn", -3, x.spawn());
+        CHECKS.due("spawn", -3, x.spawn());
+        CHECKS.counts(x, 0, 1, 4, 0, 1, 1, 0, 0, 1, 0, 0, 0, 0, 0, 0);
+        CHECKS.registers(x, 0, 0, 0, 9, 0);
+    }
+
+    private static void aDeadOneIsStillThere() {
+        SheetKernel x = Words.parentAndChild();
+        x.kill(1);
+        CHECKS.due("spawn", 2, x.spawn());
+        CHECKS.due("spawn", 3, x.spawn());
+        CHECKS.due("spawn", -3, x.spawn());
+        CHECKS.due("process(1, 0)", 4, x.process(1, 0));
+    }
+
+    private static void beginsAnew() {
+        SheetKernel x = Words.ran(3, Words.set(1, 9), Words.set(3, 300), Words.sleep(3));
+        CHECKS.process(x, 0, 2, 3, -2, 0, 300, 1, 3);
+        x.kill(0);
+        CHECKS.process(x, 0, 0, 0, 0, 0, 0, 0, 0);
+        CHECKS.registers(x, 0, 0, 0, 0, 0);
+        CHECKS.due("spawn", 0, x.spawn());
+        CHECKS.process(x, 0, 1, 0, -2, 0, 0, 0, 0);
+        CHECKS.registers(x, 0, 0, 0, 0, 0);
+        CHECKS.due("peek", 0, x.peek(0, 0));
+        CHECKS.page(x, 0, 0, 0, -2, -2, 0, 0, 0);
+        x.poke(0, 1, 7);
+        CHECKS.due("peek of a SHEET used before", 0, x.peek(0, 0));
+    }
+}
