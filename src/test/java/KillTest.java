@@ -9,6 +9,7 @@ public final class KillTest {
         deadChildrenGo();
         livingChildrenStay();
         waitingParentIsReady();
+        sleepingParentSleepsOn();
         sharedSheetsStay();
         sleeper();
         CHECKS.end();
@@ -88,6 +89,13 @@ public final class KillTest {
         CHECKS.due("the child is gone", 0, x.process(1, 0));
         CHECKS.printed(x, -9);
         CHECKS.process(x, 0, 1, 4, -2, 0, 0, 1, 5);
+    }
+
+    private static void sleepingParentSleepsOn() {
+        SheetKernel x = Words.ran(1, Words.fork(0), Words.set(1, 9), Words.sleep(1), Words.jump(3));
+        x.run(2);
+        CHECKS.due("kill", true, x.kill(1));
+        CHECKS.process(x, 0, 2, 3, -2, 0, 9, 1, 3);
     }
 
     private static void sharedSheetsStay() {

@@ -7,6 +7,8 @@ public final class SpawnTest {
         fullChangesNothing();
         aDeadOneIsStillThere();
         beginsAnew();
+        beginsAnewAfterADeadOne();
+        sheetsBeginAnew();
         CHECKS.end();
     }
 
@@ -61,5 +63,34 @@ public final class SpawnTest {
         CHECKS.page(x, 0, 0, 0, -2, -2, 0, 0, 0);
         x.poke(0, 1, 7);
         CHECKS.due("peek of a SHEET used before", 0, x.peek(0, 0));
+    }
+
+    private static void beginsAnewAfterADeadOne() {
+        SheetKernel x = Words.parentAndChild();
+        x.kill(1);
+        CHECKS.due("CODE", -9, x.process(1, 3));
+        x.kill(0);
+        x.spawn();
+        CHECKS.due("spawn", 1, x.spawn());
+        CHECKS.process(x, 1, 1, 0, -2, 0, 0, 0, 0);
+        CHECKS.registers(x, 1, 0, 0, 0, 0);
+    }
+
+    /** SHEETS of one that is gone leave nothing behind for those that come after them. */
+    private static void sheetsBeginAnew() {
+        SheetKernel x = new SheetKernel();
+        x.spawn();
+        for (int a = 0; a < 64; a++) {
+            x.poke(0, a, 9);
+        }
+        x.kill(0);
+        x.spawn();
+        Words.lay(x, 0, 0, Words.load(1, 0, 8), Words.load(2, 0, 57), Words.jump(2));
+        x.run(3);
+        CHECKS.registers(x, 0, 0, 0, 0, 0);
+        CHECKS.page(x, 0, 0, 1, 0, -2, 1, 1, 1);
+        CHECKS.page(x, 0, 1, 1, 1, -2, 1, 0, 1);
+        CHECKS.page(x, 0, 7, 1, 2, -2, 1, 0, 1);
+        CHECKS.due("count(9)", 0, x.count(9));
     }
 }
