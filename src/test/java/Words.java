@@ -92,4 +92,32 @@ final class Words {
     static SheetKernel parentAndChild() {
         return ran(1, fork(0), jump(1));
     }
+
+    /** PROCESS 0 with PAGES 0 to 5 in FRAMES 0 to 5, all USED and CHANGED, the HAND at FRAME 0. */
+    static SheetKernel fullFrames() {
+        SheetKernel x = new SheetKernel();
+        x.spawn();
+        for (int k = 0; k < 6; k++) {
+            x.poke(0, 8 * k, 100 + k);
+        }
+        return x;
+    }
+
+    /** PROCESSES 0 and 2 SLEEP, 1 is DEAD, 3 is not there; no count is 0. */
+    static SheetKernel busy() {
+        SheetKernel x = machine(fork(0), fork(1), set(2, 30), print(2), sleep(2), jump(5));
+        x.run(4);
+        x.kill(1);
+        x.run(6);
+        for (int k = 1; k < 8; k++) {
+            x.poke(0, 9 * k, k);
+        }
+        x.poke(2, 9, 5);
+        x.poke(2, 7, 6);
+        x.poke(2, 18, 7);
+        x.spawn();
+        x.poke(3, 0, word(15, 0, 0, 0));
+        x.run(1);
+        return x;
+    }
 }
