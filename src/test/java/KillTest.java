@@ -13,6 +13,7 @@ public final class KillTest {
         sharedSheetsStay();
         deadChildrenGo();
         livingChildrenHaveNoParent();
+        numberZeroAsAChild();
         waitingParentIsReady();
         otherParentsStayAsTheyAre();
         waitingStrangersWaitOn();
@@ -128,6 +129,19 @@ public final class KillTest {
         CHECKS.process(x, 1, 1, 1, -2, 0, 0, 0, 0);
         CHECKS.due("spawn", 0, x.spawn());
         CHECKS.due("the new 0 is no PARENT", -2, x.process(1, 2));
+    }
+
+    private static void numberZeroAsAChild() {
+        CHECKS.sentence(Sentence.ENDS);
+        SheetKernel dead = Words.parentOfZero();
+        CHECKS.due("PARENT", 1, dead.process(0, 2));
+        dead.kill(0);
+        CHECKS.due("DEAD", 4, dead.process(0, 0));
+        dead.kill(1);
+        CHECKS.due("gone with its PARENT", 0, dead.process(0, 0));
+        SheetKernel living = Words.parentOfZero();
+        living.kill(1);
+        CHECKS.process(living, 0, 1, 1, -2, 0, 0, 0, 0);
     }
 
     private static void waitingParentIsReady() {

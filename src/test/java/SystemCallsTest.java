@@ -19,6 +19,7 @@ public final class SystemCallsTest {
         waitsWithoutChildren();
         waitTakesTheLeastDeadOne();
         waitTakesADeadOneBeforeALivingOne();
+        waitTakesNumberZero();
         waitIsDoneAgain();
         waitLeavesOthersAlone();
         waitTakesNoGrandchild();
@@ -242,6 +243,17 @@ public final class SystemCallsTest {
         CHECKS.registers(x, 0, 1, 2, -9, 0);
         CHECKS.due("1 lives", 1, x.process(1, 0));
         CHECKS.due("2 is gone", 0, x.process(2, 0));
+    }
+
+    private static void waitTakesNumberZero() {
+        CHECKS.sentence(Sentence.WAIT);
+        SheetKernel x = Words.parentOfZero();
+        x.run(1);
+        CHECKS.due("it WAITS for 0", 3, x.process(1, 0));
+        x.kill(0);
+        x.run(1);
+        CHECKS.registers(x, 1, 0, 0, -9, 0);
+        CHECKS.due("0 is gone", 0, x.process(0, 0));
     }
 
     private static void waitIsDoneAgain() {

@@ -93,6 +93,17 @@ final class Words {
         return ran(1, fork(0), jump(1));
     }
 
+    /** PROCESS 0 is a child of PROCESS 1, which is about to WAIT by REGISTER 2, and so is the child. */
+    static SheetKernel parentOfZero() {
+        SheetKernel x = new SheetKernel();
+        x.spawn();
+        x.spawn();
+        lay(x, 1, 0, fork(1), await(2), jump(2));
+        x.kill(0);
+        x.run(1);
+        return x;
+    }
+
     /** PROCESS 0 with PAGES 0 to 5 in FRAMES 0 to 5, all USED and CHANGED, the HAND at FRAME 0. */
     static SheetKernel fullFrames() {
         SheetKernel x = new SheetKernel();
